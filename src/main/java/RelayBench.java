@@ -39,6 +39,7 @@ public final class RelayBench {
     private final Stand trial = new Stand();
     private final Motion motion = new Motion(board);
     private final History history = new History();
+    private int ticks = 0;
 
     public RelayBench() {
     }
@@ -103,7 +104,7 @@ public final class RelayBench {
                 changes++;
             }
         }
-        now.ticks += n;
+        ticks += n;
         return changes;
     }
 
@@ -115,7 +116,7 @@ public final class RelayBench {
             throw new UnsupportedOperationException("not still behind so many ticks");
         }
         now.become(trial);
-        now.ticks += done;
+        ticks += done;
         return done;
     }
 
@@ -209,7 +210,7 @@ public final class RelayBench {
             case 5:
                 return motion.flowOf(now).conducting;
             case 6:
-                return now.ticks;
+                return ticks;
             default:
                 return -1;
         }
@@ -337,7 +338,6 @@ public final class RelayBench {
         private int downs = -1;
         private int closed = 0;
         private boolean blown = false;
-        private int ticks = 0;
 
         void become(Stand other) {
             System.arraycopy(other.states, 0, states, 0, MOST_RELAYS);
@@ -347,7 +347,6 @@ public final class RelayBench {
             downs = other.downs;
             closed = other.closed;
             blown = other.blown;
-            ticks = other.ticks;
         }
 
         /** Whether the switch was another way before. */

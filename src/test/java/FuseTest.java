@@ -12,6 +12,7 @@ public final class FuseTest {
         buildingBlows();
         diodesBlowOneWay();
         newFuses();
+        dialsAtOnce();
         blownStaysBlown();
         blowsBeforeRelaysMove();
         Check.end();
@@ -109,6 +110,20 @@ public final class FuseTest {
         x.dial(0, 1, 1);
         Check.yes("blown by dial", x.blown());
         Check.same("fuse() is no tick", x.count(6), 0);
+    }
+
+    /** Two switches in a row change places; one after the other they would be closed both. */
+    private static void dialsAtOnce() {
+        RelayBench x = new RelayBench();
+        x.knob(0, 2);
+        x.knob(2, 1);
+        x.dial(0, 2, 0b10);
+        x.dial(0, 2, 0b01);
+        Check.no("first closed, second opened", x.blown());
+        x.dial(0, 2, 0b10);
+        Check.no("first opened, second closed", x.blown());
+        x.dial(0, 2, 0b11);
+        Check.yes("both closed", x.blown());
     }
 
     private static void blownStaysBlown() {

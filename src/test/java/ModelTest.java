@@ -309,12 +309,14 @@ public final class ModelTest {
     private final int nodes;
     private final int longest;
     private final int building;
+    private final int shortness;
 
     private ModelTest(int seed) {
         random = new Random(seed);
         nodes = 4 + random.nextInt(seed % 5 == 0 ? 45 : 12);
         longest = 1 + random.nextInt(9);
-        building = 20 + random.nextInt(150);
+        building = seed % 2 == 0 ? 8 + random.nextInt(14) : 10 + random.nextInt(50);
+        shortness = 1 + random.nextInt(60);
     }
 
     private int number(int below) {
@@ -322,24 +324,54 @@ public final class ModelTest {
         return random.nextInt(60) == 0 ? random.nextInt(70) - 10 : random.nextInt(Math.max(1, below));
     }
 
-    private int nodeButMinus() {
+    /** A way from PLUS to MINUS ends all movement, so most conductors keep away from MINUS. */
+    private int feedNode() {
         int k = number(nodes);
-        return k == 1 && random.nextInt(3) != 0 ? 0 : k;
+        return k == 1 && random.nextInt(shortness) != 0 ? 0 : k;
     }
 
     private void both(String told, Call ofBench, Call ofModel) {
         Check.same(told, answer(ofBench), answer(ofModel));
     }
 
+    /** Switches feed nodes 2 .. 4, contacts lead on from there to coils at 5 .. 10: here much moves. */
+    private void buildPlanned() {
+        int source = random.nextInt(5);
+        int a = source == 1 ? 0 : source;
+        int b = 5 + random.nextInt(6);
+        int p = 1 + random.nextInt(longest);
+        int q = 1 + random.nextInt(longest);
+        int relays = m.coils.size();
+        if (relays < 2 || random.nextInt(6) == 0 && relays < 16) {
+            both("relay", () -> x.relay(b, 1, p, q), () -> {
+                m.add(m.coils, 16, true, b, 1, p, q);
+                return relays;
+            });
+        } else if (random.nextInt(6) == 0) {
+            both("knob", () -> x.knob(0, 2 + p % 3), () -> {
+                m.add(m.knobs, 12, true, 0, 2 + p % 3);
+                return m.knobs.size() - 1;
+            });
+        } else {
+            int kind = random.nextInt(4);
+            int relay = random.nextInt(relays);
+            int to = random.nextInt(shortness + 5) == 0 ? 1 : b;
+            both("contact", () -> x.contact(kind, relay, a, to), () -> {
+                m.add(m.contacts, 64, true, kind, relay, a, to);
+                return m.contacts.size() - 1;
+            });
+        }
+    }
+
     private void build() {
-        int a = nodeButMinus();
-        int b = number(nodes);
+        int a = feedNode();
+        int b = feedNode();
         int p = 1 + number(longest);
         int q = 1 + number(longest);
         boolean between = Model.nodes(a, b) && a != b;
         switch (random.nextInt(10)) {
             case 0, 1 -> {
-                int c = random.nextInt(2) == 0 ? 1 : b;
+                int c = random.nextInt(4) != 0 ? 1 : b;
                 boolean right = Model.nodes(a, c) && a != c && p >= 1 && p <= 9 && q >= 1 && q <= 9;
                 both("relay", () -> x.relay(a, c, p, q), () -> {
                     m.add(m.coils, 16, right, a, c, p, q);
@@ -347,7 +379,7 @@ public final class ModelTest {
                 });
             }
             case 2, 3, 4, 5, 6 -> {
-                int kind = random.nextInt(7) == 0 ? number(5) : number(4);
+                int kind = random.nextInt(6) == 0 ? number(5) : number(4);
                 int relay = number(m.coils.size());
                 boolean known = kind == 4 || relay >= 0 && relay < m.coils.size();
                 boolean right = between && kind >= 0 && kind <= 4 && known;
@@ -364,10 +396,14 @@ public final class ModelTest {
                 m.add(m.diodes, 24, between, a, b);
                 return m.diodes.size() - 1;
             });
-            default -> both("lamp", () -> x.lamp(a, b), () -> {
-                m.add(m.lamps, 12, between, a, b);
-                return m.lamps.size() - 1;
-            });
+            default -> {
+                int c = random.nextInt(3) != 0 ? 1 : b;
+                boolean right = Model.nodes(a, c) && a != c;
+                both("lamp", () -> x.lamp(a, c), () -> {
+                    m.add(m.lamps, 12, right, a, c);
+                    return m.lamps.size() - 1;
+                });
+            }
         }
     }
 
@@ -389,12 +425,13 @@ public final class ModelTest {
             });
             case 3, 4, 5, 6 -> both("tick", () -> x.tick(n), () -> m.ticks(n));
             case 7 -> both("settle", () -> x.settle(k), () -> m.settle(k));
-            case 8, 9 -> both("circle", () -> x.circle(k), () -> m.circle(k));
-            case 10 -> {
-                int racers = number(5);
-                both("race", () -> x.race(knob, way, racers, n + 4), () -> m.race(knob, way, racers, n + 4));
+            case 8 -> both("circle", () -> x.circle(k), () -> m.circle(k));
+            case 9, 10, 11 -> {
+                int racers = random.nextInt(Math.min(6, m.coils.size() + 1));
+                int most = n + 1 + random.nextInt(14);
+                both("race", () -> x.race(knob, way, racers, most), () -> m.race(knob, way, racers, most));
             }
-            case 11, 12 -> both("fuse", () -> x.fuse(), () -> m.fuse());
+            case 12 -> both("fuse", () -> x.fuse(), () -> m.fuse());
             case 13 -> both("leads", () -> x.leads(k, n), () -> {
                 Model.right(Model.nodes(k, n));
                 return m.ways()[k][n];
@@ -426,8 +463,12 @@ public final class ModelTest {
         for (int seed = 0; seed < BENCHES; seed++) {
             ModelTest t = new ModelTest(seed);
             for (int call = 0; call < CALLS / 4; call++) {
-                if (call < t.building / 2 || t.random.nextInt(12) == 0) {
-                    t.build();
+                if (call < t.building || t.random.nextInt(20) == 0) {
+                    if (seed % 2 == 0) {
+                        t.buildPlanned();
+                    } else {
+                        t.build();
+                    }
                 } else {
                     t.use();
                 }

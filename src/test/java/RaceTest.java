@@ -4,7 +4,7 @@ public final class RaceTest {
         onlyTimeIsShort();
         slowToDropToo();
         whoIsFirst();
-        leastSetOfTwo();
+        whoIsCaught();
         fuseAlone();
         fuseByTheSwitch();
         looksAtTheFuseAsTurn();
@@ -70,29 +70,22 @@ public final class RaceTest {
         looks("switched off in time", x, false, 2, 50, -1);
     }
 
-    /** Relay 1 closes the way of relay 2 for one tick, unless relay 0 has cut it before. */
-    private static void leastSetOfTwo() {
+    /**
+     * Relay 2 is caught, and holds itself, if relay 0 is up while relay 1 is not yet.
+     * With both of the same pull this needs relay 1 to be slow.
+     */
+    private static void whoIsCaught() {
         RelayBench x = new RelayBench();
-        x.relay(2, 1, 1, 1);
+        x.relay(2, 1, 2, 1);
         x.relay(2, 1, 2, 1);
         x.relay(3, 1, 1, 1);
         x.knob(0, 2);
-        x.contact(3, 0, 2, 4);
-        x.contact(0, 1, 4, 3);
+        x.contact(3, 1, 2, 4);
+        x.contact(0, 0, 4, 3);
         x.contact(0, 2, 2, 3);
-        looks("first slow: both at once", x, 2, 50, -1);
-        looks("none of the first slow sets", x, 3, 50, -1);
-        RelayBench y = new RelayBench();
-        y.relay(2, 1, 2, 1);
-        y.relay(2, 1, 2, 1);
-        y.relay(3, 1, 1, 1);
-        y.knob(0, 2);
-        y.contact(3, 1, 2, 4);
-        y.contact(0, 0, 4, 3);
-        y.contact(0, 2, 2, 3);
-        looks("second slow: the third is left up", y, 2, 50, 2);
-        looks("second slow: the third is left up", y, 3, 50, 2);
-        looks("the first alone", y, 1, 50, -1);
+        looks("second slow: the third is left up", x, 2, 50, 2);
+        looks("second slow, the third may be too", x, 3, 50, 2);
+        looks("the first alone", x, 1, 50, -1);
     }
 
     /** All relays are down in the end, but the slow one leaves a blown fuse. */
@@ -132,22 +125,19 @@ public final class RaceTest {
         looks("up falls with the fuse", x, 1, 1, 1);
     }
 
-    /** The switch is open already; the fuse is looked at all the same, so no tick is needed for it. */
+    /** The switch is open already, but a short waits for the fuse to be looked at. */
     private static void looksAtTheFuseAsTurn() {
-        RelayBench x = Check.shortNotLookedAt();
-        x.relay(7, 8, 1, 1);
-        Check.yes("blown by the part", x.blown());
-        RelayBench y = new RelayBench();
-        y.knob(0, 2);
-        y.relay(2, 1, 1, 1);
-        y.relay(0, 1, 1, 1);
-        y.turn(0, true);
-        y.tick(1);
-        y.contact(1, 0, 0, 1);
-        y.turn(0, false);
-        y.tick(1);
-        looks("slow to fall without fuse", y, false, 2, 1, 2);
-        Check.no("not looked at for good", y.blown());
+        RelayBench x = new RelayBench();
+        x.knob(0, 2);
+        x.relay(2, 1, 1, 1);
+        x.relay(0, 1, 1, 1);
+        x.turn(0, true);
+        x.tick(1);
+        x.contact(1, 0, 0, 1);
+        x.turn(0, false);
+        x.tick(1);
+        looks("slow to fall without fuse", x, false, 2, 1, 2);
+        Check.no("not looked at for good", x.blown());
     }
 
     /** A set of the sixth relay alone is the least one; more than six are not looked at. */
