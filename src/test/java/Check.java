@@ -1,8 +1,56 @@
+import java.lang.reflect.InvocationTargetException;
+import java.lang.reflect.Method;
+import java.lang.reflect.Modifier;
+import java.util.Arrays;
+import java.util.Comparator;
+import java.util.List;
+import java.util.function.Consumer;
+import java.util.function.Supplier;
+import java.util.function.ToLongFunction;
+
 /** What the tests share: it prints every answer that is not the one that is due. */
 final class Check {
     private static int wrong = 0;
+    private static String running = "";
 
     private Check() {
+    }
+
+    /**
+     * Runs every static method without parameters and answer, each as a test of its own, and ends with exit
+     * code 1 if an answer was wrong.
+     */
+    static void runAll(Class<?> tests) {
+        Method[] methods = tests.getDeclaredMethods();
+        Arrays.sort(methods, Comparator.comparing(Method::getName));
+        int ran = 0;
+        for (Method m : methods) {
+            if (isTest(m)) {
+                run(m);
+                ran++;
+            }
+        }
+        System.out.println(ran + " tests, " + wrong + " wrong answers");
+        if (ran == 0 || wrong != 0) {
+            System.exit(1);
+        }
+    }
+
+    private static boolean isTest(Method m) {
+        return Modifier.isStatic(m.getModifiers()) && !m.isSynthetic()
+                && m.getParameterCount() == 0 && m.getReturnType() == void.class;
+    }
+
+    private static void run(Method m) {
+        running = m.getName();
+        try {
+            m.setAccessible(true);
+            m.invoke(null);
+        } catch (InvocationTargetException e) {
+            complain("threw " + e.getCause());
+        } catch (IllegalAccessException e) {
+            complain("cannot be run");
+        }
     }
 
     static void same(String call, long got, long due) {
@@ -13,7 +61,7 @@ final class Check {
 
     static void same(String call, String got, String due) {
         if (!got.equals(due)) {
-            complain(call + " gave\n" + got + "\ndue is\n" + due);
+            complain(call + " gave " + got + ", due is " + due);
         }
     }
 
@@ -25,81 +73,63 @@ final class Check {
         same(call, got ? 1 : 0, 0);
     }
 
-    /** The call has to throw exactly this and leave everything as it was. */
-    static void refuses(Class<? extends RuntimeException> due, String call, RelayBench x, Runnable body) {
-        String before = picture(x);
+    /**
+     * The call has to throw exactly this. That it changed nothing is seen beside a second bench that was
+     * made in the same way and was not asked.
+     */
+    static void refuses(Class<? extends RuntimeException> due, String call, Supplier<RelayBench> maker,
+            Consumer<RelayBench> body) {
+        RelayBench x = maker.get();
         Class<?> got = null;
         try {
-            body.run();
+            body.accept(x);
         } catch (RuntimeException e) {
             got = e.getClass();
         }
         if (got != due) {
             complain(call + " threw " + got + ", due is " + due);
         }
-        same(call + " when refused", picture(x), before);
+        sameStory(call + " when refused", x, maker.get());
     }
 
-    static void badArgument(String call, RelayBench x, Runnable body) {
-        refuses(IllegalArgumentException.class, call, x, body);
+    static void badArgument(String call, Supplier<RelayBench> maker, Consumer<RelayBench> body) {
+        refuses(IllegalArgumentException.class, call, maker, body);
     }
 
-    static void badState(String call, RelayBench x, Runnable body) {
-        refuses(IllegalStateException.class, call, x, body);
+    static void badState(String call, Supplier<RelayBench> maker, Consumer<RelayBench> body) {
+        refuses(IllegalStateException.class, call, maker, body);
     }
 
-    static void unsupported(String call, RelayBench x, Runnable body) {
-        refuses(UnsupportedOperationException.class, call, x, body);
+    static void unsupported(String call, Supplier<RelayBench> maker, Consumer<RelayBench> body) {
+        refuses(UnsupportedOperationException.class, call, maker, body);
     }
 
-    /** All that can be seen of a bench without changing it. */
-    static String picture(RelayBench x) {
-        StringBuilder b = new StringBuilder();
-        for (int what = 0; what <= 6; what++) {
-            b.append(x.count(what)).append(' ');
-        }
-        b.append("blown ").append(x.blown()).append(" ups ").append(x.ups()).append(" lit ").append(x.lit());
-        for (int r = 0; r < x.count(0); r++) {
-            b.append(" r");
-            for (int what = 0; what <= 3; what++) {
-                b.append(' ').append(x.state(r, what));
+    /** A wrong argument that no bench takes, whatever is on it and however it stands. */
+    static void badEverywhere(String call, Consumer<RelayBench> body) {
+        Benches.ALL.forEach((name, maker) -> badArgument(call + " of a bench that is " + name, maker, body));
+    }
+
+    /** The call has to answer this and change nothing. */
+    static void looks(String call, Supplier<RelayBench> maker, ToLongFunction<RelayBench> body, long due) {
+        RelayBench x = maker.get();
+        same(call, body.applyAsLong(x), due);
+        sameStory(call + " when only looking", x, maker.get());
+    }
+
+    private static void sameStory(String call, RelayBench x, RelayBench twin) {
+        List<String> got = Story.of(x);
+        List<String> due = Story.of(twin);
+        for (int k = 0; k < due.size() && k < got.size(); k++) {
+            if (!got.get(k).equals(due.get(k))) {
+                complain(call + " left " + got.get(k) + ", due is " + due.get(k));
+                return;
             }
         }
-        for (int a = 0; a < 48; a++) {
-            b.append(" n").append(x.node(a));
-            for (int c = 0; c < 48; c++) {
-                if (x.leads(a, c)) {
-                    b.append('>').append(c);
-                }
-            }
-        }
-        return b.toString();
-    }
-
-    /** The last tick has closed a way from PLUS to MINUS; the fuse has not been looked at since. */
-    static RelayBench shortNotLookedAt() {
-        RelayBench x = new RelayBench();
-        x.knob(0, 2);
-        x.relay(2, 1, 1, 1);
-        x.lamp(0, 1);
-        x.turn(0, true);
-        x.tick(1);
-        x.contact(1, 0, 0, 1);
-        x.turn(0, false);
-        x.tick(1);
-        return x;
-    }
-
-    /** Ends the test, with exit code 1 if an answer was wrong. */
-    static void end() {
-        if (wrong != 0) {
-            System.out.println(wrong + " answers are not as due");
-            System.exit(1);
-        }
+        same(call + " left so much to see", got.size(), due.size());
     }
 
     private static void complain(String text) {
         wrong++;
-        System.out.println(text);
+        System.out.println(running + ": " + text);
     }
 }

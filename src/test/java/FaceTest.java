@@ -36,26 +36,37 @@ public final class FaceTest {
     };
 
     public static void main(String[] args) {
-        Check.yes("the class is public", Modifier.isPublic(RelayBench.class.getModifiers()));
-        Check.yes("the class is final", Modifier.isFinal(RelayBench.class.getModifiers()));
-        methods();
+        Check.runAll(FaceTest.class);
+    }
+
+    private static void classIsPublicAndFinal() {
+        Check.yes("public", Modifier.isPublic(RelayBench.class.getModifiers()));
+        Check.yes("final", Modifier.isFinal(RelayBench.class.getModifiers()));
+    }
+
+    private static void oneConstructor() {
         Constructor<?>[] makers = RelayBench.class.getDeclaredConstructors();
         Check.same("constructors", makers.length, 1);
-        Check.yes("the constructor is public", Modifier.isPublic(makers[0].getModifiers()));
-        Check.same("its parameters", makers[0].getParameterCount(), 0);
+        Check.yes("public", Modifier.isPublic(makers[0].getModifiers()));
+        Check.same("parameters", makers[0].getParameterCount(), 0);
+    }
+
+    private static void fieldsArePrivate() {
         for (Field f : RelayBench.class.getDeclaredFields()) {
             Check.yes(f + " is private", Modifier.isPrivate(f.getModifiers()));
             Check.yes(f + " is final if static",
                     !Modifier.isStatic(f.getModifiers()) || Modifier.isFinal(f.getModifiers()));
         }
+    }
+
+    private static void classesInsideAreStatic() {
         for (Class<?> inside : RelayBench.class.getDeclaredClasses()) {
             Check.yes(inside + " is static", Modifier.isStatic(inside.getModifiers()));
             Check.no(inside + " is public", Modifier.isPublic(inside.getModifiers()));
         }
-        Check.end();
     }
 
-    private static void methods() {
+    private static void methodsAreThoseOfTheDocument() {
         Set<String> seen = new TreeSet<>();
         Set<String> names = new HashSet<>();
         for (Method m : RelayBench.class.getDeclaredMethods()) {

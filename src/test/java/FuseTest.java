@@ -1,25 +1,13 @@
+import java.util.function.Consumer;
+
 /** Promises 18 and 19: blown and fuse, and when the fuse is looked at. */
 public final class FuseTest {
-    /** Something that is done to a bench. */
-    private interface Deed {
-        void on(RelayBench x);
-    }
-
     public static void main(String[] args) {
-        looksOnly();
-        lookers();
-        refusedDoNotLook();
-        buildingBlows();
-        diodesBlowOneWay();
-        newFuses();
-        dialsAtOnce();
-        blownStaysBlown();
-        blowsBeforeRelaysMove();
-        Check.end();
+        Check.runAll(FuseTest.class);
     }
 
     private static void looksOnly() {
-        RelayBench x = Check.shortNotLookedAt();
+        RelayBench x = Benches.shortNotLookedAt();
         Check.no("not looked at", x.blown());
         Check.yes("a whole fuse is not looked at", x.fuse());
         Check.same("MINUS is hot", x.node(1), 3);
@@ -45,25 +33,12 @@ public final class FuseTest {
         looks("settle", x -> x.settle(1));
     }
 
-    private static void looks(String name, Deed deed) {
-        RelayBench x = Check.shortNotLookedAt();
-        deed.on(x);
+    private static void looks(String name, Consumer<RelayBench> deed) {
+        RelayBench x = Benches.shortNotLookedAt();
+        deed.accept(x);
         Check.yes("blown behind " + name, x.blown());
         Check.same("dark behind " + name, x.lit(), 0);
         Check.same("nodes do not ask the fuse", x.node(1), 3);
-    }
-
-    private static void refusedDoNotLook() {
-        RelayBench x = Check.shortNotLookedAt();
-        Check.badArgument("relay", x, () -> x.relay(2, 2, 1, 1));
-        Check.badArgument("contact", x, () -> x.contact(0, 1, 2, 3));
-        Check.badArgument("knob", x, () -> x.knob(0, 48));
-        Check.badArgument("turn", x, () -> x.turn(1, true));
-        Check.badArgument("dial", x, () -> x.dial(0, 2, 0));
-        Check.badArgument("tick", x, () -> x.tick(0));
-        Check.unsupported("settle", x, () -> x.settle(0));
-        Check.unsupported("circle", x, () -> x.circle(1));
-        Check.no("still whole", x.blown());
     }
 
     private static void buildingBlows() {
@@ -110,20 +85,6 @@ public final class FuseTest {
         x.dial(0, 1, 1);
         Check.yes("blown by dial", x.blown());
         Check.same("fuse() is no tick", x.count(6), 0);
-    }
-
-    /** Two switches in a row change places; one after the other they would be closed both. */
-    private static void dialsAtOnce() {
-        RelayBench x = new RelayBench();
-        x.knob(0, 2);
-        x.knob(2, 1);
-        x.dial(0, 2, 0b10);
-        x.dial(0, 2, 0b01);
-        Check.no("first closed, second opened", x.blown());
-        x.dial(0, 2, 0b10);
-        Check.no("first opened, second closed", x.blown());
-        x.dial(0, 2, 0b11);
-        Check.yes("both closed", x.blown());
     }
 
     private static void blownStaysBlown() {

@@ -1,18 +1,11 @@
 /** Promises 13 to 17 and 20: what is seen of a bench. */
 public final class LooksTest {
     public static void main(String[] args) {
-        states();
-        currents();
-        lamps();
-        nodes();
-        ways();
-        counts();
-        Check.end();
+        Check.runAll(LooksTest.class);
     }
 
     private static void states() {
         RelayBench x = new RelayBench();
-        Check.badArgument("no relay at all", x, () -> x.state(0, 0));
         x.knob(0, 2);
         for (int r = 0; r < 16; r++) {
             x.relay(r % 2 == 0 ? 2 : 3, 1, 1 + r / 2, 1 + r / 2);
@@ -34,13 +27,6 @@ public final class LooksTest {
         x.tick(1);
         Check.same("falling ones are not up", x.ups(), 0);
         Check.same("falling", x.state(14, 0), 3);
-        for (int wrong : new int[] {-1, 16, 32, Integer.MIN_VALUE, Integer.MAX_VALUE}) {
-            Check.badArgument("state of " + wrong, x, () -> x.state(wrong, 0));
-        }
-        for (int wrong : new int[] {-1, 4, Integer.MIN_VALUE, Integer.MAX_VALUE}) {
-            Check.badArgument("what " + wrong, x, () -> x.state(0, wrong));
-        }
-        Check.badArgument("both wrong", x, () -> x.state(16, 4));
     }
 
     /** A coil has current whichever of its nodes is the hot one; it conducts for no one. */
@@ -94,6 +80,90 @@ public final class LooksTest {
         Check.same("one between hot and cold", y.lit(), 1);
     }
 
+    /** A lamp and a coil behind a contact of each kind: what has current follows relay 0 tick by tick. */
+    private static RelayBench shownByLamps() {
+        RelayBench x = new RelayBench();
+        x.knob(0, 2);
+        x.relay(2, 1, 2, 2);
+        for (int kind = 0; kind <= 4; kind++) {
+            x.contact(kind, 0, 0, 10 + kind);
+            x.lamp(10 + kind, 1);
+            x.relay(10 + kind, 1, 9, 9);
+        }
+        return x;
+    }
+
+    private static int coilsWithCurrent(RelayBench x) {
+        int bits = 0;
+        for (int kind = 0; kind <= 4; kind++) {
+            bits |= x.state(1 + kind, 2) << kind;
+        }
+        return bits;
+    }
+
+    private static void currentsFollowTheRelays() {
+        int down = 0b11010;
+        int moving = 0b11100;
+        int up = 0b10101;
+        int[] due = {moving, up, up, moving, down, down};
+        RelayBench x = shownByLamps();
+        RelayBench y = shownByLamps();
+        Check.same("lit at first", x.lit(), down);
+        Check.same("coils at first", coilsWithCurrent(y), down);
+        for (int k = 0; k < due.length; k++) {
+            x.turn(0, k < 3);
+            y.turn(0, k < 3);
+            x.tick(1);
+            y.tick(1);
+            Check.same("lit behind tick " + k, x.lit(), due[k]);
+            Check.same("coils behind tick " + k, coilsWithCurrent(y), due[k]);
+        }
+    }
+
+    /** Each look is the first one behind a run that was not done. */
+    private static void looksAreOfTheBenchAsItIs() {
+        for (int how = 0; how < 2; how++) {
+            RelayBench x = shownByLamps();
+            x.turn(0, true);
+            lookAhead(x, how);
+            Check.same("lit()", x.lit(), 0b11010);
+            lookAhead(x, how);
+            Check.same("coils", coilsWithCurrent(x), 0b11010);
+            lookAhead(x, how);
+            Check.same("node(10)", x.node(10), 0);
+            lookAhead(x, how);
+            Check.no("leads(0, 12)", x.leads(0, 12));
+            lookAhead(x, how);
+            Check.same("count(5)", x.count(5), 3);
+            lookAhead(x, how);
+            Check.same("ups()", x.ups(), 0);
+        }
+    }
+
+    private static void lookAhead(RelayBench x, int how) {
+        if (how == 0) {
+            x.race(0, true, 1, 50);
+        } else {
+            x.circle(50);
+        }
+    }
+
+    private static void partsConductThoughTheFuseHasBlown() {
+        RelayBench x = new RelayBench();
+        x.contact(4, 0, 0, 1);
+        Check.no("before", x.leads(0, 10) || x.leads(0, 11));
+        x.contact(4, 0, 0, 10);
+        x.diode(10, 11);
+        Check.yes("behind", x.leads(0, 11) && x.node(11) == 1 && x.node(10) == 3);
+        x.diode(11, 12);
+        x.knob(12, 13);
+        x.turn(0, true);
+        Check.yes("behind a switch", x.leads(0, 13) && x.count(5) == 2);
+        x.contact(4, 0, 13, 14);
+        x.knob(14, 15);
+        Check.yes("before a switch", x.leads(0, 14) && x.count(5) == 3);
+    }
+
     private static void nodes() {
         RelayBench x = new RelayBench();
         x.diode(0, 10);
@@ -121,17 +191,11 @@ public final class LooksTest {
         Check.same("hot and cold without the fuse", x.node(46), 3);
         Check.same("and behind MINUS", x.node(13), 1);
         Check.same("and before PLUS", x.node(11), 2);
-        for (int wrong : new int[] {-1, 48, 64, Integer.MIN_VALUE, Integer.MAX_VALUE}) {
-            Check.badArgument("node(" + wrong + ")", x, () -> x.node(wrong));
-        }
     }
 
-    private static void ways() {
+    /** A chain against the numbers through all nodes but PLUS: wires, with one diode in it. */
+    private static RelayBench chain() {
         RelayBench x = new RelayBench();
-        for (int k = 0; k < 48; k++) {
-            Check.yes("a node leads to itself", x.leads(k, k));
-        }
-        // A chain against the numbers through all nodes but PLUS: wires, with one diode in it.
         for (int k = 47; k > 1; k--) {
             if (k == 20) {
                 x.diode(20, 19);
@@ -139,22 +203,26 @@ public final class LooksTest {
                 x.contact(4, 0, k, k - 1);
             }
         }
+        return x;
+    }
+
+    private static void ways() {
         for (int a = 0; a < 48; a++) {
+            RelayBench x = chain();
             for (int b = 0; b < 48; b++) {
                 boolean due = a == b || a > 0 && b > 0 && (a >= 20 || b < 20);
                 Check.same("leads(" + a + ", " + b + ")", x.leads(a, b) ? 1 : 0, due ? 1 : 0);
             }
         }
+    }
+
+    private static void waysOfSwitches() {
+        RelayBench x = chain();
         x.knob(0, 47);
         Check.no("an open switch", x.leads(0, 47));
         x.turn(0, true);
         Check.yes("a closed one, though the fuse blows", x.blown() && x.leads(0, 1) && x.leads(47, 0));
         Check.no("not against the diode", x.leads(1, 0));
-        for (int wrong : new int[] {-1, 48, 64, Integer.MIN_VALUE, Integer.MAX_VALUE}) {
-            Check.badArgument("leads from " + wrong, x, () -> x.leads(wrong, 2));
-            Check.badArgument("leads to " + wrong, x, () -> x.leads(2, wrong));
-            Check.badArgument("leads to itself " + wrong, x, () -> x.leads(wrong, wrong));
-        }
     }
 
     private static void counts() {
@@ -192,8 +260,5 @@ public final class LooksTest {
         x.circle(9);
         x.race(0, false, 2, 9);
         Check.same("no ticks by looking", x.count(6), 9);
-        for (int wrong : new int[] {-1, 7, Integer.MIN_VALUE, Integer.MAX_VALUE}) {
-            Check.same("count(" + wrong + ")", x.count(wrong), -1);
-        }
     }
 }

@@ -7,8 +7,9 @@ import java.util.Random;
 
 /** Long mixed runs of all calls, wrong ones among them, against a second program that shares no code. */
 public final class ModelTest {
-    private static final int BENCHES = 600;
+    private static final int BENCHES = 400;
     private static final int CALLS = 512;
+    private static final int COMPARING = 9 + 4 * 21;
 
     /** The document again, as slow and plain as can be. */
     private static final class Model {
@@ -310,6 +311,7 @@ public final class ModelTest {
     private final int longest;
     private final int building;
     private final int shortness;
+    private int calls = 0;
 
     private ModelTest(int seed) {
         random = new Random(seed);
@@ -445,38 +447,54 @@ public final class ModelTest {
         }
     }
 
-    private void compare() {
-        for (int what = -1; what <= 7; what++) {
-            Check.same("count", x.count(what), m.count(what));
-        }
+    /** The sums, and of each relay one thing, another one each time. */
+    private void compareSome(int turn) {
+        calls += 5 + m.coils.size();
+        Check.same("count(5)", x.count(5), m.count(5));
+        Check.same("count(6)", x.count(6), m.count(6));
         Check.same("ups", x.ups(), m.ups());
         Check.same("lit", x.lit(), m.lit());
         Check.same("blown", x.blown() ? 1 : 0, m.whole ? 0 : 1);
         for (int r = 0; r < m.coils.size(); r++) {
-            for (int what = 0; what <= 3; what++) {
-                Check.same("state", x.state(r, what), m.state(r, what));
+            int what = (turn + r) % 4;
+            Check.same("state", x.state(r, what), m.state(r, what));
+        }
+    }
+
+    private void compareAll() {
+        for (int what = -1; what <= 7; what++) {
+            Check.same("count", x.count(what), m.count(what));
+        }
+        for (int turn = 0; turn < 4; turn++) {
+            compareSome(turn);
+        }
+    }
+
+    /** As long as the calls that a bench is good for last, those of comparing among them. */
+    private void run(boolean planned) {
+        for (int step = 0; calls < CALLS - 21 - COMPARING; step++) {
+            calls++;
+            if (step >= building && random.nextInt(20) != 0) {
+                use();
+            } else if (planned) {
+                buildPlanned();
+            } else {
+                build();
             }
+            if (step % 12 == 0) {
+                compareSome(step / 12);
+            }
+        }
+        compareAll();
+    }
+
+    private static void mixedRuns() {
+        for (int seed = 0; seed < BENCHES; seed++) {
+            new ModelTest(seed).run(seed % 2 == 0);
         }
     }
 
     public static void main(String[] args) {
-        for (int seed = 0; seed < BENCHES; seed++) {
-            ModelTest t = new ModelTest(seed);
-            for (int call = 0; call < CALLS / 4; call++) {
-                if (call < t.building || t.random.nextInt(20) == 0) {
-                    if (seed % 2 == 0) {
-                        t.buildPlanned();
-                    } else {
-                        t.build();
-                    }
-                } else {
-                    t.use();
-                }
-                if (call % 8 == 0) {
-                    t.compare();
-                }
-            }
-        }
-        Check.end();
+        Check.runAll(ModelTest.class);
     }
 }

@@ -6,15 +6,7 @@ public final class TicksTest {
     private static final int FALLING = 3;
 
     public static void main(String[] args) {
-        wholeTravel();
-        turnedBack();
-        allTogether();
-        changesOnly();
-        wrongTicks();
-        settles();
-        settlesInVain();
-        stillButForTheFuse();
-        Check.end();
+        Check.runAll(TicksTest.class);
     }
 
     /** Switch 0 feeds relay 0; contact k of the relay is of kind k, between PLUS and node 10 + k. */
@@ -111,66 +103,34 @@ public final class TicksTest {
 
     private static void changesOnly() {
         RelayBench x = bench(4, 2);
-        Check.same("nothing to do", x.tick(500), 0);
-        Check.same("ticks are done all the same", x.count(6), 500);
+        Check.same("nothing to do", x.tick(20), 0);
+        Check.same("ticks are done all the same", x.count(6), 20);
         x.turn(0, true);
-        Check.same("four of them", x.tick(500), 4);
-        Check.same("ticks", x.count(6), 1000);
+        Check.same("four of them", x.tick(50), 4);
+        Check.same("ticks", x.count(6), 70);
         x.turn(0, false);
         Check.same("two of them", x.tick(3), 2);
-        Check.same("ticks", x.count(6), 1003);
-    }
-
-    private static void wrongTicks() {
-        RelayBench x = bench(4, 2);
-        x.turn(0, true);
-        for (int wrong : new int[] {0, -1, 501, Integer.MIN_VALUE, Integer.MAX_VALUE}) {
-            Check.badArgument("tick(" + wrong + ")", x, () -> x.tick(wrong));
-        }
-        for (int wrong : new int[] {-1, 501, Integer.MIN_VALUE, Integer.MAX_VALUE}) {
-            Check.badArgument("settle(" + wrong + ")", x, () -> x.settle(wrong));
-        }
+        Check.same("ticks", x.count(6), 73);
     }
 
     private static void settles() {
         RelayBench x = bench(4, 2);
-        Check.same("still from the first", x.settle(0), 0);
         x.turn(0, true);
-        Check.same("just enough", x.settle(4), 4);
+        Check.same("from the first", x.settle(100), 4);
         shows("settled", x, UP, 0, 1);
         Check.same("ticks", x.count(6), 4);
-        Check.same("still", x.settle(500), 0);
+        Check.same("still", x.settle(100), 0);
         Check.same("no tick more", x.count(6), 4);
         x.turn(0, false);
         x.tick(1);
-        Check.same("from the middle", x.settle(500), 1);
+        Check.same("from the middle", x.settle(100), 1);
         shows("settled", x, DOWN, 0, 1);
         Check.same("ticks", x.count(6), 6);
     }
 
     private static void settlesInVain() {
-        RelayBench x = bench(4, 2);
-        x.turn(0, true);
-        Check.unsupported("one too few", x, () -> x.settle(3));
-        Check.unsupported("none", x, () -> x.settle(0));
-        x.tick(1);
-        Check.unsupported("one too few", x, () -> x.settle(2));
-        Check.same("just enough", x.settle(3), 3);
-        RelayBench buzzer = new RelayBench();
-        buzzer.relay(2, 1, 1, 1);
-        buzzer.contact(3, 0, 0, 2);
-        Check.unsupported("never still", buzzer, () -> buzzer.settle(500));
-        Check.same("always something", buzzer.tick(500), 500);
-        Check.same("worn", buzzer.state(0, 3), 250);
-    }
-
-    private static void stillButForTheFuse() {
-        RelayBench x = Check.shortNotLookedAt();
-        Check.unsupported("a fuse that would blow", x, () -> x.settle(0));
-        Check.same("the tick that blows it", x.settle(1), 1);
-        Check.yes("blown", x.blown());
-        RelayBench y = Check.shortNotLookedAt();
-        Check.same("a blowing fuse is a change", y.tick(5), 1);
-        Check.yes("blown", y.blown());
+        Check.unsupported("a buzzer", () -> Benches.buzzer(3, 1, 1), x -> x.settle(100));
+        Check.unsupported("one that rises and gives up", () -> Benches.buzzer(1, 3, 3), x -> x.settle(100));
+        Check.unsupported("a bench that moves", Benches::moving, x -> x.settle(100));
     }
 }
